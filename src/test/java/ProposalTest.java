@@ -63,9 +63,9 @@ public final class ProposalTest {
         Checks.dueQuiet("14: propose(0, NOBODY)", () -> x.propose(0, NOBODY));
         x.plan(4, 4);
         x.propose(4, 1);
-        Checks.dueQuiet("14: a proposal leaves the plan alone", () -> x.giver(0));
-        Checks.dueQuiet("14: the proposal leaves the plan alone", () -> x.judge(8, 8));
-        Checks.due("15: judging leaves the plan alone", "0", () -> x.giver(2));
+        Checks.due("14: a proposal leaves the plan alone", 0, () -> x.giver(2));
+        Checks.due("14: a plan leaves the proposal alone", 7, () -> x.judge(8, 8));
+        Checks.due("15: judging leaves the plan alone", 0, () -> x.giver(2));
     }
 
     private static void limits() {
