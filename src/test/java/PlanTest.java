@@ -20,50 +20,8 @@ public final class PlanTest {
         Checks.finish();
     }
 
-    /** Pairs of which each can give to the next alone, and the last to the first. */
-    private static ChainExchange ring(int size) {
-        ChainExchange x = new ChainExchange();
-        for (int member = 0; member < size; member++) {
-            x.pair(0, 0, 10 + member);
-        }
-        for (int u = 0; u < size; u++) {
-            for (int v = 0; v < size; v++) {
-                if (u != v && v != (u + 1) % size) {
-                    x.bar(u, v, true);
-                }
-            }
-        }
-        return x;
-    }
-
-    /** An altruist, 0, and pairs of which each is given to by the member before it alone. */
-    private static ChainExchange line(int pairs) {
-        ChainExchange x = new ChainExchange();
-        x.altruist(0);
-        for (int member = 1; member <= pairs; member++) {
-            x.pair(0, 0, member);
-        }
-        for (int u = 0; u <= pairs; u++) {
-            for (int v = 1; v <= pairs; v++) {
-                if (u != v && v != u + 1) {
-                    x.bar(u, v, true);
-                }
-            }
-        }
-        return x;
-    }
-
-    /** As many pairs as told, all of blood 0 and weight 1: each can give to each other. */
-    private static ChainExchange alike(int size) {
-        ChainExchange x = new ChainExchange();
-        for (int member = 0; member < size; member++) {
-            x.pair(0, 0, 1);
-        }
-        return x;
-    }
-
     private static void limits() {
-        ChainExchange x = alike(2);
+        ChainExchange x = Scenes.alike(2);
         for (int wrong : new int[] {-1, 5, Integer.MIN_VALUE, Integer.MAX_VALUE}) {
             Checks.dueThrow("8: plan(" + wrong + ", 0)", ARGUMENT, () -> x.plan(wrong, 0));
             Checks.dueThrow("8: plan(0, " + wrong + ")", ARGUMENT, () -> x.plan(0, wrong));
@@ -77,7 +35,7 @@ public final class PlanTest {
 
     private static void longestCycles() {
         for (int size = 2; size <= 5; size++) {
-            ChainExchange x = ring(size);
+            ChainExchange x = Scenes.ring(size);
             int all = size * 10 + size * (size - 1) / 2;
             for (int l = 0; l <= 4; l++) {
                 int most = l;
@@ -88,7 +46,7 @@ public final class PlanTest {
     }
 
     private static void longestChains() {
-        ChainExchange x = line(5);
+        ChainExchange x = Scenes.line(5);
         int[] weights = {0, 1, 3, 6, 10};
         for (int k = 0; k <= 4; k++) {
             int most = k;
@@ -116,7 +74,7 @@ public final class PlanTest {
     }
 
     private static void leastGiverWins() {
-        ChainExchange x = alike(4);
+        ChainExchange x = Scenes.alike(4);
         Checks.due("8: four alike by twos", 4, () -> x.plan(2, 0));
         Checks.due("9: givers by twos", "1 0 3 2", () -> Checks.givers(x, 4));
         Checks.due("8: four alike by fours", 4, () -> x.plan(4, 0));
@@ -135,7 +93,7 @@ public final class PlanTest {
     }
 
     private static void giverBeforeNobody() {
-        ChainExchange x = alike(3);
+        ChainExchange x = Scenes.alike(3);
         Checks.due("8: three alike by twos", 2, () -> x.plan(2, 0));
         Checks.due("9: the last goes without", "1 0 -1", () -> Checks.givers(x, 3));
         ChainExchange y = new ChainExchange();
@@ -147,7 +105,7 @@ public final class PlanTest {
     }
 
     private static void planOutlivesThrows() {
-        ChainExchange x = alike(2);
+        ChainExchange x = Scenes.alike(2);
         x.altruist(3);
         x.plan(2, 0);
         Checks.dueThrow("8: plan(5, 0)", ARGUMENT, () -> x.plan(5, 0));
@@ -162,7 +120,7 @@ public final class PlanTest {
     }
 
     private static void whatEndsAPlan() {
-        ChainExchange x = alike(2);
+        ChainExchange x = Scenes.alike(2);
         x.altruist(3);
         dueNoPlanAfter(x, "pair", () -> x.pair(0, 0, 1));
         dueNoPlanAfter(x, "altruist", () -> x.altruist(3));
@@ -263,7 +221,7 @@ public final class PlanTest {
 
     /** All calls of an object that is used to its limit keep the promises. */
     private static void manyCalls() {
-        ChainExchange x = alike(8);
+        ChainExchange x = Scenes.alike(8);
         for (int call = 8; call < 511; call++) {
             Checks.due("8: plan(4, 4) at call " + call, 8, () -> x.plan(4, 4));
         }

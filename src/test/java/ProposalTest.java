@@ -24,25 +24,8 @@ public final class ProposalTest {
         Checks.finish();
     }
 
-    /** Altruists 0 and 1, then pairs with weights 2 .. 7: all of blood 0. */
-    private static ChainExchange eight() {
-        ChainExchange x = new ChainExchange();
-        x.altruist(0);
-        x.altruist(0);
-        for (int member = 2; member < 8; member++) {
-            x.pair(0, 0, member);
-        }
-        return x;
-    }
-
-    private static void proposeAll(ChainExchange x, int... givers) {
-        for (int member = 0; member < givers.length; member++) {
-            x.propose(member, givers[member]);
-        }
-    }
-
     private static void proposals() {
-        ChainExchange x = eight();
+        ChainExchange x = Scenes.eight();
         Checks.due("15: an empty proposal", 0, () -> x.judge(0, 0));
         x.propose(2, 0);
         Checks.due("14: a giver", 2, () -> x.judge(0, 1));
@@ -69,7 +52,7 @@ public final class ProposalTest {
     }
 
     private static void limits() {
-        ChainExchange x = eight();
+        ChainExchange x = Scenes.eight();
         for (int wrong : new int[] {-1, 9, Integer.MIN_VALUE, Integer.MAX_VALUE}) {
             Checks.dueThrow("15: judge(" + wrong + ", 0)", INDEX, () -> x.judge(wrong, 0));
             Checks.dueThrow("15: judge(0, " + wrong + ")", INDEX, () -> x.judge(0, wrong));
@@ -78,7 +61,7 @@ public final class ProposalTest {
     }
 
     private static void whoCannotGive() {
-        ChainExchange x = eight();
+        ChainExchange x = Scenes.eight();
         x.propose(2, 2);
         Checks.dueThrow("15: to oneself", ARGUMENT, () -> x.judge(8, 8));
         x.propose(2, NOBODY);
@@ -98,26 +81,26 @@ public final class ProposalTest {
     }
 
     private static void whoGivesTwice() {
-        ChainExchange x = eight();
-        proposeAll(x, NOBODY, NOBODY, 0, 0);
+        ChainExchange x = Scenes.eight();
+        Scenes.proposeAll(x, NOBODY, NOBODY, 0, 0);
         Checks.dueThrow("15: an altruist to two", STATE, () -> x.judge(8, 8));
-        proposeAll(x, NOBODY, NOBODY, 3, 2, 2);
+        Scenes.proposeAll(x, NOBODY, NOBODY, 3, 2, 2);
         Checks.dueThrow("15: a pair to two", STATE, () -> x.judge(8, 8));
-        proposeAll(x, NOBODY, NOBODY, 7, NOBODY, NOBODY, NOBODY, NOBODY, 7);
+        Scenes.proposeAll(x, NOBODY, NOBODY, 7, NOBODY, NOBODY, NOBODY, NOBODY, 7);
         Checks.dueThrow("15: who can't comes before", ARGUMENT, () -> x.judge(8, 8));
-        proposeAll(x, NOBODY, NOBODY, 7, NOBODY, NOBODY, NOBODY, 7, 2);
+        Scenes.proposeAll(x, NOBODY, NOBODY, 7, NOBODY, NOBODY, NOBODY, 7, 2);
         Checks.dueThrow("15: the greatest member to two", STATE, () -> x.judge(8, 8));
     }
 
     private static void whoGivesUnpaid() {
-        ChainExchange x = eight();
-        proposeAll(x, NOBODY, NOBODY, 3);
+        ChainExchange x = Scenes.eight();
+        Scenes.proposeAll(x, NOBODY, NOBODY, 3);
         Checks.dueThrow("15: an unpaid pair", NO_ELEMENT, () -> x.judge(8, 8));
         x.propose(3, 1);
         Checks.due("15: it is paid", 5, () -> x.judge(0, 2));
-        proposeAll(x, NOBODY, NOBODY, 7, 2);
+        Scenes.proposeAll(x, NOBODY, NOBODY, 7, 2);
         Checks.dueThrow("15: an unpaid greatest pair", NO_ELEMENT, () -> x.judge(8, 8));
-        proposeAll(x, NOBODY, NOBODY, 3, 2);
+        Scenes.proposeAll(x, NOBODY, NOBODY, 3, 2);
         Checks.due("15: a cycle pays", 5, () -> x.judge(2, 0));
     }
 
@@ -146,16 +129,16 @@ public final class ProposalTest {
             Checks.due("15: a chain of " + member, member, () -> x.judge(0, most));
             Checks.dueThrow("15: too long a chain", UNSUPPORTED, () -> x.judge(8, most - 1));
         }
-        ChainExchange y = eight();
-        proposeAll(y, NOBODY, NOBODY, 0, 1, 3, 6, 7, 5);
+        ChainExchange y = Scenes.eight();
+        Scenes.proposeAll(y, NOBODY, NOBODY, 0, 1, 3, 6, 7, 5);
         Checks.due("15: chains of one and two, a cycle of three", 27, () -> y.judge(3, 2));
         Checks.dueThrow("15: the cycle is too long", UNSUPPORTED, () -> y.judge(2, 2));
         Checks.dueThrow("15: a chain is too long", UNSUPPORTED, () -> y.judge(3, 1));
     }
 
     private static void firstNamedWins() {
-        ChainExchange x = eight();
-        proposeAll(x, 1, NOBODY, 3, NOBODY, 3, 6, 5);
+        ChainExchange x = Scenes.eight();
+        Scenes.proposeAll(x, 1, NOBODY, 3, NOBODY, 3, 6, 5);
         Checks.dueThrow("15: all that there is", INDEX, () -> x.judge(9, 0));
         Checks.dueThrow("15: all but the limits", ARGUMENT, () -> x.judge(0, 0));
         x.propose(0, NOBODY);
@@ -168,7 +151,7 @@ public final class ProposalTest {
     }
 
     private static void judgesWhatIsNow() {
-        ChainExchange x = eight();
+        ChainExchange x = Scenes.eight();
         x.propose(2, 0);
         x.stay(0, false);
         Checks.dueThrow("15: the donor is not here", ARGUMENT, () -> x.judge(8, 8));
@@ -184,8 +167,8 @@ public final class ProposalTest {
     }
 
     private static void adopts() {
-        ChainExchange x = eight();
-        proposeAll(x, 0, 0, 0, 0, 0, 0, 0, 0);
+        ChainExchange x = Scenes.eight();
+        Scenes.proposeAll(x, 0, 0, 0, 0, 0, 0, 0, 0);
         x.plan(0, 2);
         Checks.due("9: givers", "-1 -1 -1 -1 0 1 4 5", () -> Checks.givers(x, 8));
         Checks.dueQuiet("16: adopt()", () -> x.adopt());
