@@ -27,6 +27,7 @@ public final class EdgesOfProposalsTest {
         givesUnpaid();
         altruistIsNeverUnpaid();
         notFit();
+        longestChain();
         limitsOfEight();
         eachPartIsLookedAt();
         adoptTheWholePlan();
@@ -259,6 +260,25 @@ public final class EdgesOfProposalsTest {
             int weight = pairs * (pairs + 1) / 2;
             Checks.due("15: a chain of " + pairs, weight, () -> x.judge(0, length));
             Checks.dueThrow("15: a chain by one too long", UNSUPPORTED, () -> x.judge(8, length - 1));
+        }
+    }
+
+    /** The same: a chain of seven patients, whichever member begins it. */
+    private static void longestChain() {
+        for (int first = 0; first < 8; first++) {
+            ChainExchange x = new ChainExchange();
+            for (int member = 0; member < 8; member++) {
+                if (member == first) {
+                    x.altruist(0);
+                } else {
+                    x.pair(0, 0, 100);
+                }
+            }
+            for (int step = 1; step < 8; step++) {
+                x.propose((first + step) % 8, (first + step - 1) % 8);
+            }
+            Checks.due("15: seven behind " + first, 700, () -> x.judge(0, 7));
+            Checks.dueThrow("15: seven behind " + first + " for six", UNSUPPORTED, () -> x.judge(8, 6));
         }
     }
 
