@@ -431,26 +431,25 @@ public final class ChainExchange {
         private final long[] parts = new long[ALL_SETS];
         // For each set of members the worth of the best exchange among them.
         private final long[] best = new long[ALL_SETS];
-        private int size = 0;
 
         void find(Pool pool, int longestCycle, int longestChain, Exchange plan) {
-            size = pool.size();
             valueGifts(pool);
             Arrays.fill(parts, 0L);
-            for (int first = 0; first < size; first++) {
+            for (int first = 0; first < pool.size(); first++) {
                 if (pool.isPair(first)) {
-                    growCycle(first, first, 1 << first, 0L, longestCycle - 1);
+                    growCycle(gifts, parts, first, first, 1 << first, 0L, longestCycle - 1);
                 } else {
-                    growChain(first, 1 << first, 0L, longestChain);
+                    growChain(gifts, parts, first, 1 << first, 0L, longestChain);
                 }
             }
-            joinParts();
-            unpack(best[(1 << size) - 1], plan);
+            int all = (1 << pool.size()) - 1;
+            joinParts(all);
+            unpack(best[all], plan);
         }
 
         private void valueGifts(Pool pool) {
-            for (int u = 0; u < size; u++) {
-                for (int v = 0; v < size; v++) {
+            for (int u = 0; u < MOST_MEMBERS; u++) {
+                for (int v = 0; v < MOST_MEMBERS; v++) {
                     gifts[u * MOST_MEMBERS + v] =
                             pool.canGive(u, v) ? worth(u, v, pool.weightOf(v)) : 0L;
                 }
@@ -465,8 +464,12 @@ public final class ChainExchange {
             return DIGIT_BITS * (MOST_MEMBERS - 1 - v);
         }
 
-        /** Members beyond the first are greater than it, so that each cycle is met once. */
-        private void growCycle(int first, int last, int taken, long sum, int left) {
+        /**
+         * Members beyond the first are greater than it, so that each cycle is met once. At most
+         * left members more: so deep it calls itself.
+         */
+        private static void growCycle(
+                long[] gifts, long[] parts, int first, int last, int taken, long sum, int left) {
             long closing = gifts[last * MOST_MEMBERS + first];
             if (closing > 0) {
                 parts[taken] = Math.max(parts[taken], sum + closing);
@@ -474,31 +477,32 @@ public final class ChainExchange {
             if (left <= 0) {
                 return;
             }
-            for (int next = first + 1; next < size; next++) {
+            for (int next = first + 1; next < MOST_MEMBERS; next++) {
                 long gift = gifts[last * MOST_MEMBERS + next];
                 if (gift > 0 && (taken & 1 << next) == 0) {
-                    growCycle(first, next, taken | 1 << next, sum + gift, left - 1);
+                    growCycle(gifts, parts, first, next, taken | 1 << next, sum + gift, left - 1);
                 }
             }
         }
 
-        private void growChain(int last, int taken, long sum, int left) {
+        private static void growChain(
+                long[] gifts, long[] parts, int last, int taken, long sum, int left) {
             parts[taken] = Math.max(parts[taken], sum);
             if (left <= 0) {
                 return;
             }
-            for (int next = 0; next < size; next++) {
+            for (int next = 0; next < MOST_MEMBERS; next++) {
                 long gift = gifts[last * MOST_MEMBERS + next];
                 if (gift > 0 && (taken & 1 << next) == 0) {
-                    growChain(next, taken | 1 << next, sum + gift, left - 1);
+                    growChain(gifts, parts, next, taken | 1 << next, sum + gift, left - 1);
                 }
             }
         }
 
         /** The least member of a set is in no part, or in one with some others of the set. */
-        private void joinParts() {
+        private void joinParts(int all) {
             best[0] = 0L;
-            for (int set = 1; set < 1 << size; set++) {
+            for (int set = 1; set <= all; set++) {
                 int least = set & -set;
                 int rest = set & ~least;
                 long most = best[rest];
